@@ -32,6 +32,7 @@ public final class Promise03LineTest {
         CHECK.due("absolute MIN", x.line(1, Integer.MIN_VALUE, false), -4);
         CHECK.due("absolute 60", x.line(1, 60, false), 0);
         CHECK.due("relative 20", x.line(1, 20, true), 1);
+        CHECK.due("absolute, the second", x.line(1, 30, false), -4);
         CHECK.due("relative 1", x.line(1, 1, true), 2);
         CHECK.due("absolute, not the first", x.line(1, 20, false), -4);
     }

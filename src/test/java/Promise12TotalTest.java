@@ -13,6 +13,7 @@ public final class Promise12TotalTest {
         CHECK.due("total(4)", x.total(4), 0);
         CHECK.due("total(-1)", x.total(-1), 0);
         CHECK.due("total(MIN)", x.total(Integer.MIN_VALUE), 0);
+        CHECK.due("total(1) ahead of initiate()", x.total(1), 0);
         x.initiate();
         x.generate(detail, 1L << 40);
         x.generate(other, -3);

@@ -37,6 +37,7 @@ public final class Promise13CounterTest {
         x.initiate();
         counters(x, "anew", 0, 0, 1, 5, 0, 0, 1);
         pageWithoutLines();
+        reportHeadAlone();
         CHECK.end();
     }
 
@@ -48,5 +49,13 @@ public final class Promise13CounterTest {
         counters(x, "on a page without lines", 1, 0, 1, 1, 1, 0, 0);
         x.terminate();
         counters(x, "with a page foot alone", 1, 8, 0, 1, 1, 0, 0);
+    }
+
+    private static void reportHeadAlone() {
+        ReportWriter x = new ReportWriter(20, 3, 5);
+        Check.relativeGroup(x, 0, 0, 2);
+        x.initiate();
+        CHECK.due("the report head", x.generate(0, 1), 1);
+        counters(x, "on the page behind it", 2, 0, 1, 1, 1, 0, 0);
     }
 }
