@@ -410,7 +410,7 @@ public final class ReportWriter {
     private void printFrom(int start, Group g, long number) {
         for (int i = 0; i < g.lineCount; i++) {
             latestLine = start + g.behindStart[i];
-            printed.add(pageCounter, latestLine, g.number, i + 1, (int) number);
+            printed.add(pageCounter, latestLine, g.number, i, (int) number);
         }
     }
 

@@ -26,7 +26,7 @@ public final class Promise07InitiateTest {
         }
         CHECK.due("set keeps values", x.set(1, 2), 2);
         CHECK.due("generate begins a page anew", x.generate(detail, 8), 1);
-        CHECK.row(x, 0, 1, 3, detail, 1, 8);
+        CHECK.row(x, 0, 1, 3, detail, 0, 8);
         CHECK.end();
     }
 }

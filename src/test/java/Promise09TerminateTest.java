@@ -35,13 +35,13 @@ public final class Promise09TerminateTest {
         x.generate(5, 9);
         x.set(1, 6);
         CHECK.due("terminate()", x.terminate(), 7);
-        CHECK.row(x, 0, 1, 3, 5, 1, 9);
-        CHECK.row(x, 1, 1, 4, 2, 1, 5); // the value at the latest generating
-        CHECK.row(x, 2, 1, 5, 1, 1, 0);
-        CHECK.row(x, 3, 1, 17, 3, 1, 0);
-        CHECK.row(x, 4, 1, 18, 3, 2, 0);
-        CHECK.row(x, 5, 2, 4, 4, 1, 0);
-        CHECK.row(x, 6, 2, 5, 4, 2, 0);
+        CHECK.row(x, 0, 1, 3, 5, 0, 9);
+        CHECK.row(x, 1, 1, 4, 2, 0, 5); // the value at the latest generating
+        CHECK.row(x, 2, 1, 5, 1, 0, 0);
+        CHECK.row(x, 3, 1, 17, 3, 0, 0);
+        CHECK.row(x, 4, 1, 18, 3, 1, 0);
+        CHECK.row(x, 5, 2, 4, 4, 0, 0);
+        CHECK.row(x, 6, 2, 5, 4, 1, 0);
         CHECK.due("counter(0)", x.counter(0), 2);
         CHECK.due("the end is no break", x.counter(5), 0);
         CHECK.due("again", x.terminate(), -5);

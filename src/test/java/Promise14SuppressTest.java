@@ -75,7 +75,7 @@ public final class Promise14SuppressTest {
         x.generate(2, 1);
         CHECK.due("counter(0)", x.counter(0), 1);
         x.generate(1, 1);
-        CHECK.row(x, 1, 1, 4, 1, 1, 1);
+        CHECK.row(x, 1, 1, 4, 1, 0, 1);
     }
 
     private static void rolledAllTheSame() {
