@@ -48,8 +48,8 @@ public final class ReportWriter {
     private int latestBodyLine = 0;
     private int generatings = 0;
     private int breaks = 0;
-    /** No detail was printed since the latest break, beginning or page's beginning. */
-    private boolean detailIsFirst = false;
+    /** Which stretch between breaks and beginnings of pages this is; each detail keeps the one that it was printed in. */
+    private int stretch = 0;
 
     public ReportWriter(int page, int first, int foot) {
         this.page = held(page, 10, 100);
@@ -174,7 +174,7 @@ public final class ReportWriter {
             breaks++;
             printControlFoots(level);
             printControlHeads(level);
-            detailIsFirst = true;
+            stretch++;
         }
         generatings++;
         System.arraycopy(values, 0, valuesBefore, 0, values.length);
@@ -369,17 +369,15 @@ public final class ReportWriter {
             beginPage();
             start = startInBody(g);
         }
-        boolean hidden = g.indicated && !detailIsFirst;
+        boolean hidden = g.indicated && g.latestStretch == stretch;
         printFrom(start, g, hidden ? 0 : number);
         latestBodyLine = latestLine;
-        if (g.kind == DETAIL) {
-            detailIsFirst = false;
-        }
+        g.latestStretch = stretch;
     }
 
     private void beginPage() {
         countPage();
-        detailIsFirst = true;
+        stretch++;
         printOutsideBody(groupOf(PAGE_HEAD, 0));
     }
 
@@ -483,6 +481,8 @@ public final class ReportWriter {
         final int[] behindStart = new int[MOST_LINES_OF_GROUP];
         boolean suppressed = false;
         boolean indicated = false;
+        /** The stretch that it was printed in at last, indicated or not. */
+        int latestStretch = 0;
 
         Group(int number, int kind, int level) {
             this.number = number;

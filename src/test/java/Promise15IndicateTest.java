@@ -5,6 +5,8 @@ public final class Promise15IndicateTest {
         answers();
         beginningBreakAndPage();
         severalDetails();
+        eachDetailForItself();
+        printedAheadOfIndicating();
         notPrintedIsNotFirst();
         CHECK.end();
     }
@@ -66,14 +68,46 @@ public final class Promise15IndicateTest {
         x.indicate(indicated);
         x.initiate();
         x.generate(plain, 1);
-        x.generate(indicated, 2); // not the first one
+        x.generate(indicated, 2); // the first one of its own printings
         x.generate(plain, 3);
-        numbers(x, 1, 0, 0, 3);
+        x.generate(indicated, 4);
+        numbers(x, 1, 2, 2, 3, 0, 0);
         x.terminate();
         x.initiate();
-        x.generate(indicated, 4);
-        x.generate(indicated, 5);
-        numbers(x, 4, 4, 0, 0);
+        x.generate(indicated, 5); // the beginning of another report
+        x.generate(indicated, 6);
+        numbers(x, 5, 5, 0, 0);
+    }
+
+    private static void eachDetailForItself() {
+        ReportWriter x = new ReportWriter(20, 3, 7);
+        x.control(1);
+        int one = Check.relativeGroup(x, 3, 0, 1);
+        int other = Check.relativeGroup(x, 3, 0, 1);
+        x.indicate(one);
+        x.indicate(other);
+        x.initiate();
+        x.generate(one, 1);
+        x.generate(other, 2);
+        x.generate(one, 3);
+        x.set(1, 2);
+        x.generate(other, 4); // a break
+        x.generate(one, 5);
+        x.generate(other, 6); // a page's beginning
+        x.generate(other, 7);
+        x.generate(one, 8);
+        x.generate(one, 9);
+        numbers(x, 1, 2, 0, 4, 5, 6, 0, 8, 0);
+    }
+
+    private static void printedAheadOfIndicating() {
+        ReportWriter x = new ReportWriter(20, 3, 15);
+        int detail = Check.relativeGroup(x, 3, 0, 1);
+        x.initiate();
+        x.generate(detail, 1);
+        x.indicate(detail);
+        x.generate(detail, 2); // not the first one, though the first one since it is indicated
+        numbers(x, 1, 0);
     }
 
     private static void notPrintedIsNotFirst() {
