@@ -1,8 +1,11 @@
 import java.util.Random;
 
-/** Runs of 512 calls with any arguments: nothing is thrown but by at(), and the printed lines stand where they may. */
+/** Runs of up to 512 calls with any arguments: nothing is thrown but by at(), and the printed lines stand where they may. */
 public final class AnyCallsTest {
     private static final Check CHECK = new Check("any calls");
+    private static final int MOST_CALLS = 512;
+    /** Calls that are kept for looking at the printed lines. */
+    private static final int KEPT_CALLS = 160;
     private static final int[] EDGES = {Integer.MIN_VALUE, Integer.MIN_VALUE + 1, -100, -21, -20, -5, -2, -1, 0, 1, 2,
         5, 6, 7, 10, 11, 19, 20, 21, 99, 100, 101, 512, Integer.MAX_VALUE - 1, Integer.MAX_VALUE};
 
@@ -12,6 +15,7 @@ public final class AnyCallsTest {
     private final int foot;
     private final ReportWriter x;
     private final int[] kinds = new int[21];
+    private int calls = 0;
 
     private AnyCallsTest(long seed) {
         random = new Random(seed);
@@ -22,6 +26,7 @@ public final class AnyCallsTest {
     }
 
     public static void main(String[] args) {
+        CHECK.holds("An object is used for at most 512 calls after it has been made", "any calls");
         for (long seed = 0; seed < 3000; seed++) {
             new AnyCallsTest(seed).run();
         }
@@ -34,14 +39,16 @@ public final class AnyCallsTest {
     }
 
     private void run() {
-        for (int i = 0; i < 510; i++) {
-            call(i < 100 ? random.nextInt(11) : random.nextInt(20));
+        while (calls < MOST_CALLS - KEPT_CALLS) {
+            call(calls < 100 ? random.nextInt(11) : random.nextInt(20));
         }
         x.terminate();
+        calls++;
         linesStandInOrder();
     }
 
     private void call(int which) {
+        calls++;
         switch (which) {
             case 0: case 1: case 2:
                 callGroup(any());
@@ -65,7 +72,7 @@ public final class AnyCallsTest {
                 x.initiate();
                 break;
             case 12:
-                CHECK.due("terminate() tells lines()", callTerminate(), 1);
+                callTerminate();
                 break;
             case 13:
                 x.set(any(), any());
@@ -75,6 +82,8 @@ public final class AnyCallsTest {
                 break;
             case 15:
                 x.total(any());
+                break;
+            case 16:
                 x.counter(any());
                 break;
             default:
@@ -89,12 +98,15 @@ public final class AnyCallsTest {
         }
     }
 
-    private int callTerminate() {
+    private void callTerminate() {
         int told = x.terminate();
-        return told == -5 || told == x.lines() ? 1 : 0;
+        calls++;
+        int lines = x.lines();
+        CHECK.due("terminate() tells lines()", told == -5 ? lines : told, lines);
     }
 
     private void callAt(int line, int column) {
+        calls++;
         boolean isThere = line >= 0 && line < x.lines() && column >= 0 && column < 5;
         if (isThere) {
             x.at(line, column);
@@ -104,14 +116,19 @@ public final class AnyCallsTest {
     }
 
     private void callGenerate() {
+        calls += 2;
         int before = x.lines();
         int told = x.generate(any(), random.nextLong());
         CHECK.due("generate() tells what it printed", x.lines() - before, Math.max(told, 0));
     }
 
+    /** As many of the printed lines as the kept calls reach. */
     private void linesStandInOrder() {
         int place = 0;
-        for (int i = 0; i < x.lines(); i++) {
+        calls++;
+        int lines = x.lines();
+        for (int i = 0; i < lines && calls + 3 <= MOST_CALLS; i++) {
+            calls += 3;
             int line = x.at(i, 1);
             int next = x.at(i, 0) * 101 + line;
             CHECK.due("line " + i + " stands behind the one before", next > place ? 1 : 0, 1);
@@ -153,8 +170,8 @@ public final class AnyCallsTest {
         }
         x.initiate();
         x.generate(3, 1);
-        calls += 3; // with terminate()
-        while (calls + 2 <= 512) {
+        calls += 4; // with terminate() and lines()
+        while (calls + 2 <= MOST_CALLS) {
             x.set(1, calls);
             CHECK.due("generate", x.generate(3, calls), 11 * 30);
             calls += 2;

@@ -2,30 +2,14 @@ public final class Promise14SuppressTest {
     private static final Check CHECK = new Check("promise 14, suppress");
 
     public static void main(String[] args) {
-        answers();
-        everyKind();
+        theNextTime();
+        onlyThatGroup();
+        noPageIsTurned();
+        aFootOfABreak();
         withoutLines();
-        noPageForSuppressed();
-        rolledAllTheSame();
+        toldAlready();
+        noSuchGroup();
         CHECK.end();
-    }
-
-    private static void answers() {
-        ReportWriter x = new ReportWriter(20, 3, 15);
-        CHECK.due("suppress(1), no group", x.suppress(1), -2);
-        Check.relativeGroup(x, 3, 0, 1);
-        CHECK.due("suppress(0)", x.suppress(0), -2);
-        CHECK.due("suppress(2)", x.suppress(2), -2);
-        CHECK.due("suppress(-1)", x.suppress(-1), -2);
-        CHECK.due("suppress(1)", x.suppress(1), 1);
-        CHECK.due("suppress(1) again", x.suppress(1), 0);
-        x.initiate();
-        CHECK.due("it lasts behind initiate()", x.suppress(1), 0);
-        CHECK.due("suppressed", x.generate(1, 5), 0);
-        CHECK.due("once", x.generate(1, 5), 1);
-        CHECK.due("suppress(1) anew", x.suppress(1), 1);
-        CHECK.due("a summary leaves it", x.generate(0, 5), 0);
-        CHECK.due("suppressed anew", x.generate(1, 5), 0);
     }
 
     /** One group of each kind, one line each, numbered kind + 1. */
@@ -37,7 +21,8 @@ public final class Promise14SuppressTest {
         return x;
     }
 
-    private static void everyKind() {
+    private static void theNextTime() {
+        CHECK.holds("A group is not printed the next time that it would be");
         int[] pagesWithout = {2, 3, 3, 3, 3, 3, 2};
         for (int kind = 0; kind <= 6; kind++) {
             ReportWriter x = oneOfEachKind();
@@ -51,21 +36,32 @@ public final class Promise14SuppressTest {
             }
             x.initiate();
             x.generate(4, 1);
-            CHECK.due("the next time it is printed, kind " + kind, x.terminate(), 7);
+            CHECK.due("the time behind it is printed, kind " + kind, x.terminate(), 7);
             CHECK.due("pages", x.counter(0), 3);
         }
     }
 
-    private static void withoutLines() {
+    private static void onlyThatGroup() {
+        CHECK.holds("A group is not printed the next time that it would be", "another one's time is not its own");
         ReportWriter x = new ReportWriter(20, 3, 15);
-        x.group(3, 0);
-        x.suppress(1);
+        Check.relativeGroup(x, 3, 0, 1);
+        Check.relativeGroup(x, 3, 0, 1);
         x.initiate();
-        x.generate(1, 1);
-        CHECK.due("used up without lines", x.suppress(1), 1);
+        x.suppress(1);
+        CHECK.due("another detail", x.generate(2, 5), 1);
+        CHECK.due("a summary", x.generate(0, 5), 0);
+        CHECK.due("a refused one", x.generate(3, 5), -2);
+        CHECK.due("the suppressed one", x.generate(1, 5), 0);
+        CHECK.due("the time behind it", x.generate(1, 5), 1);
+        x.suppress(1);
+        x.terminate();
+        x.initiate();
+        CHECK.due("the next time is in the next report", x.generate(1, 5), 0);
+        CHECK.due("the time behind it", x.generate(1, 5), 1);
     }
 
-    private static void noPageForSuppressed() {
+    private static void noPageIsTurned() {
+        CHECK.holds("A group is not printed the next time that it would be", "and turns no page");
         ReportWriter x = new ReportWriter(20, 3, 4);
         Check.relativeGroup(x, 3, 0, 1);
         Check.relativeGroup(x, 3, 0, 1, 1);
@@ -78,19 +74,67 @@ public final class Promise14SuppressTest {
         CHECK.row(x, 1, 1, 4, 1, 0, 1);
     }
 
-    private static void rolledAllTheSame() {
-        ReportWriter x = new ReportWriter(20, 3, 15);
-        x.control(1);
-        int foot1 = Check.relativeGroup(x, 4, 1, 1);
-        int foot0 = Check.relativeGroup(x, 4, 0, 1);
-        x.sum(foot1, 0, 1);
-        x.sum(foot0, -1, 0);
+    private static void aFootOfABreak() {
+        CHECK.holds("A group is not printed the next time that it would be", "a head and a foot of a break");
+        ReportWriter x = Check.withControls(new ReportWriter(20, 3, 15), 1);
+        Check.relativeGroup(x, 2, 1, 1);
+        Check.relativeGroup(x, 4, 1, 1);
         x.initiate();
         x.generate(0, 3);
-        x.suppress(foot1);
+        x.suppress(1);
+        x.suppress(2);
+        x.generate(0, 3);
+        CHECK.due("not used up without a break", x.suppress(1) + x.suppress(2), 0);
         x.set(1, 2);
-        CHECK.due("the foot is suppressed", x.generate(0, 4), 0);
-        CHECK.due("its sum is rolled", x.total(2), 3);
-        CHECK.due("its sum is reset", x.total(1), 4);
+        CHECK.due("the break with both suppressed", x.generate(0, 4), 0);
+        CHECK.due("it is a break", x.counter(5), 1);
+        x.set(1, 3);
+        CHECK.due("the next break", x.generate(0, 4), 2);
+    }
+
+    private static void withoutLines() {
+        CHECK.holds("(one without lines: it is used up alike)");
+        for (int kind = 0; kind <= 6; kind++) {
+            ReportWriter x = new ReportWriter(20, 3, 15);
+            x.group(3, 0);
+            int group = x.group(kind, 0);
+            x.suppress(group);
+            x.initiate();
+            CHECK.due("not yet used up, kind " + kind, x.suppress(group), 0);
+            x.generate(kind == 3 ? group : 1, 1);
+            x.terminate();
+            CHECK.due("used up, kind " + kind, x.suppress(group), 1);
+        }
+    }
+
+    private static void toldAlready() {
+        CHECK.holds("1; 0 when that was told already");
+        for (int kind = 0; kind <= 6; kind++) {
+            ReportWriter x = oneOfEachKind();
+            CHECK.due("kind " + kind, x.suppress(kind + 1), 1);
+            CHECK.due("again, kind " + kind, x.suppress(kind + 1), 0);
+            CHECK.due("another one", x.suppress(kind == 0 ? 7 : kind), 1);
+            x.initiate();
+            CHECK.due("behind initiate(), kind " + kind, x.suppress(kind + 1), 0);
+            x.generate(4, 1);
+            x.terminate();
+            CHECK.due("told twice, once not printed, kind " + kind, x.lines(), 5);
+            CHECK.due("anew, kind " + kind, x.suppress(kind + 1), 1);
+            CHECK.due("anew again, kind " + kind, x.suppress(kind + 1), 0);
+        }
+    }
+
+    private static void noSuchGroup() {
+        CHECK.holds("-2", "no such group");
+        ReportWriter x = new ReportWriter(20, 3, 15);
+        CHECK.due("without groups, suppress(1)", x.suppress(1), -2);
+        x.group(3, 0);
+        x.group(1, 0);
+        int[] none = {0, 3, -1, -2, Integer.MIN_VALUE, Integer.MAX_VALUE};
+        for (int group : none) {
+            CHECK.due("suppress(" + group + ")", x.suppress(group), -2);
+        }
+        CHECK.due("suppress(1)", x.suppress(1), 1);
+        CHECK.due("suppress(2)", x.suppress(2), 1);
     }
 }

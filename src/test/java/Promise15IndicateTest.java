@@ -2,126 +2,173 @@ public final class Promise15IndicateTest {
     private static final Check CHECK = new Check("promise 15, indicate");
 
     public static void main(String[] args) {
-        answers();
-        beginningBreakAndPage();
-        severalDetails();
+        onAndOff();
+        theBeginning();
+        aBreak();
+        aPagesBeginning();
         eachDetailForItself();
         printedAheadOfIndicating();
         notPrintedIsNotFirst();
+        allItsLines();
+        answers();
+        noSuchDetail();
         CHECK.end();
     }
 
-    private static void answers() {
+    /** One control, a body from 3 to the foot; group 1 is an indicated detail of one line. */
+    private static ReportWriter indicated(int foot) {
+        ReportWriter x = Check.withControls(new ReportWriter(20, 3, foot), 1);
+        Check.relativeGroup(x, 3, 0, 1);
+        x.indicate(1);
+        return x;
+    }
+
+    private static void onAndOff() {
+        CHECK.holds("A detail is indicated from now on, or, if it was, not any more");
+        ReportWriter x = indicated(15);
+        x.initiate();
+        x.generate(1, 1);
+        x.generate(1, 2);
+        x.indicate(1);
+        x.generate(1, 3);
+        x.generate(1, 4);
+        x.indicate(1);
+        x.generate(1, 5);
+        CHECK.column(x, 4, 1, 0, 3, 4, 0);
+    }
+
+    private static void theBeginning() {
+        CHECK.holds("its number is told only when it is the first one behind a break, the beginning, or a page's beginning, else 0",
+                "the beginning");
+        ReportWriter x = indicated(15);
+        x.initiate();
+        x.generate(0, 1);
+        x.generate(1, 2);
+        x.generate(0, 3);
+        x.generate(1, 4);
+        CHECK.column(x, 4, 2, 0);
+        x.terminate();
+        x.initiate();
+        x.generate(1, 5);
+        x.generate(1, 6);
+        CHECK.column(x, 4, 5, 0);
+    }
+
+    private static void aBreak() {
+        CHECK.holds("its number is told only when it is the first one behind a break, the beginning, or a page's beginning, else 0",
+                "a break");
+        ReportWriter x = indicated(15);
+        x.initiate();
+        x.generate(1, 1);
+        x.set(1, 2);
+        x.generate(1, 2);
+        x.set(1, 2);
+        x.generate(1, 3); // the same value is none
+        x.set(1, 3);
+        x.generate(0, 4); // a summary's break
+        x.generate(1, 5);
+        x.generate(1, 6);
+        CHECK.column(x, 4, 1, 2, 0, 5, 0);
+    }
+
+    private static void aPagesBeginning() {
+        CHECK.holds("its number is told only when it is the first one behind a break, the beginning, or a page's beginning, else 0",
+                "a page's beginning");
+        ReportWriter x = indicated(4);
+        Check.relativeGroup(x, 3, 0, 1);
+        x.initiate();
+        x.generate(1, 1);
+        x.generate(1, 2); // the page's last line
+        x.generate(1, 3); // the next page's first
+        x.generate(1, 4);
+        x.generate(2, 5); // another detail begins the page
+        x.generate(1, 6);
+        CHECK.column(x, 4, 1, 0, 3, 0, 5, 6);
+    }
+
+    private static void eachDetailForItself() {
+        CHECK.holds("its number is told only when it is the first one behind a break, the beginning, or a page's beginning, else 0",
+                "among its own printings");
+        ReportWriter x = indicated(7);
+        Check.relativeGroup(x, 3, 0, 1);
+        x.indicate(2);
+        x.initiate();
+        x.generate(1, 1);
+        x.generate(2, 2);
+        x.generate(1, 3);
+        x.set(1, 2);
+        x.generate(2, 4); // a break
+        x.generate(1, 5);
+        x.generate(2, 6); // a page's beginning
+        x.generate(2, 7);
+        x.generate(1, 8);
+        x.generate(1, 9);
+        CHECK.column(x, 4, 1, 2, 0, 4, 5, 6, 0, 8, 0);
+    }
+
+    private static void printedAheadOfIndicating() {
+        CHECK.holds("A detail is indicated from now on", "a printing ahead of it counts as the first one");
         ReportWriter x = new ReportWriter(20, 3, 15);
-        CHECK.due("no group", x.indicate(1), -2);
+        Check.relativeGroup(x, 3, 0, 1);
+        x.initiate();
+        x.generate(1, 1);
+        x.indicate(1);
+        x.generate(1, 2);
+        CHECK.column(x, 4, 1, 0);
+    }
+
+    private static void notPrintedIsNotFirst() {
+        CHECK.holds("its number is told only when it is the first one behind a break, the beginning, or a page's beginning, else 0",
+                "a suppressed one is not printed");
+        ReportWriter x = indicated(15);
+        x.suppress(1);
+        x.initiate();
+        x.generate(1, 1);
+        x.generate(1, 2);
+        x.generate(1, 3);
+        CHECK.column(x, 4, 2, 0);
+    }
+
+    private static void allItsLines() {
+        CHECK.holds("its number is told only when it is the first one behind a break, the beginning, or a page's beginning, else 0",
+                "on all its lines");
+        ReportWriter x = new ReportWriter(20, 3, 15);
+        Check.relativeGroup(x, 3, 0, 1, 1);
+        x.indicate(1);
+        x.initiate();
+        x.generate(1, 7);
+        x.generate(1, 8);
+        CHECK.column(x, 4, 7, 7, 0, 0);
+    }
+
+    private static void answers() {
+        CHECK.holds("1 when it was, else 0");
+        ReportWriter x = new ReportWriter(20, 3, 15);
+        x.group(3, 0);
+        x.group(3, 0);
+        CHECK.due("it was not", x.indicate(1), 0);
+        CHECK.due("it was", x.indicate(1), 1);
+        CHECK.due("it was not any more", x.indicate(1), 0);
+        CHECK.due("another one was not", x.indicate(2), 0);
+        x.initiate();
+        CHECK.due("it was, behind initiate()", x.indicate(1), 1);
+        x.generate(1, 1);
+        CHECK.due("it was not, behind generate()", x.indicate(1), 0);
+        x.terminate();
+        CHECK.due("it was, behind terminate()", x.indicate(1), 1);
+    }
+
+    private static void noSuchDetail() {
+        CHECK.holds("-2", "no such detail");
+        ReportWriter x = new ReportWriter(20, 3, 15);
+        CHECK.due("without groups, indicate(1)", x.indicate(1), -2);
         for (int kind = 0; kind <= 6; kind++) {
             x.group(kind, 0);
             CHECK.due("kind " + kind, x.indicate(kind + 1), kind == 3 ? 0 : -2);
         }
-        CHECK.due("indicate(0)", x.indicate(0), -2);
-        CHECK.due("indicate(8)", x.indicate(8), -2);
-        CHECK.due("it was", x.indicate(4), 1);
-        CHECK.due("it was not", x.indicate(4), 0);
-        x.initiate();
-        CHECK.due("behind initiate()", x.indicate(4), 1);
-    }
-
-    private static void numbers(ReportWriter x, int... want) {
-        for (int i = 0; i < want.length; i++) {
-            CHECK.due("at(" + i + ", 4)", x.at(i, 4), want[i]);
+        int[] none = {0, 8, -1, -4, Integer.MIN_VALUE, Integer.MAX_VALUE};
+        for (int group : none) {
+            CHECK.due("indicate(" + group + ")", x.indicate(group), -2);
         }
-    }
-
-    private static void beginningBreakAndPage() {
-        ReportWriter x = new ReportWriter(20, 3, 6);
-        x.control(1);
-        int detail = Check.relativeGroup(x, 3, 0, 1);
-        x.indicate(detail);
-        x.initiate();
-        x.generate(detail, 1); // the beginning
-        x.generate(detail, 2);
-        x.set(1, 2);
-        x.generate(detail, 3); // a break
-        x.generate(detail, 4);
-        x.generate(detail, 5); // a page's beginning
-        x.generate(detail, 6);
-        x.indicate(detail);
-        x.generate(detail, 7); // not indicated any more
-        x.indicate(detail);
-        x.generate(detail, 8);
-        x.set(1, 3);
-        x.generate(0, 9); // a break, by a summary
-        x.suppress(detail);
-        x.terminate();
-        numbers(x, 1, 0, 3, 0, 5, 0, 7, 0);
-        x.suppress(detail);
-        x.initiate();
-        x.generate(detail, 1);
-        x.generate(detail, 2); // the first one that is printed
-        CHECK.due("at(0, 4)", x.at(0, 4), 2);
-    }
-
-    private static void severalDetails() {
-        ReportWriter x = new ReportWriter(20, 3, 15);
-        int plain = Check.relativeGroup(x, 3, 0, 1);
-        int indicated = Check.relativeGroup(x, 3, 0, 1, 1);
-        x.indicate(indicated);
-        x.initiate();
-        x.generate(plain, 1);
-        x.generate(indicated, 2); // the first one of its own printings
-        x.generate(plain, 3);
-        x.generate(indicated, 4);
-        numbers(x, 1, 2, 2, 3, 0, 0);
-        x.terminate();
-        x.initiate();
-        x.generate(indicated, 5); // the beginning of another report
-        x.generate(indicated, 6);
-        numbers(x, 5, 5, 0, 0);
-    }
-
-    private static void eachDetailForItself() {
-        ReportWriter x = new ReportWriter(20, 3, 7);
-        x.control(1);
-        int one = Check.relativeGroup(x, 3, 0, 1);
-        int other = Check.relativeGroup(x, 3, 0, 1);
-        x.indicate(one);
-        x.indicate(other);
-        x.initiate();
-        x.generate(one, 1);
-        x.generate(other, 2);
-        x.generate(one, 3);
-        x.set(1, 2);
-        x.generate(other, 4); // a break
-        x.generate(one, 5);
-        x.generate(other, 6); // a page's beginning
-        x.generate(other, 7);
-        x.generate(one, 8);
-        x.generate(one, 9);
-        numbers(x, 1, 2, 0, 4, 5, 6, 0, 8, 0);
-    }
-
-    private static void printedAheadOfIndicating() {
-        ReportWriter x = new ReportWriter(20, 3, 15);
-        int detail = Check.relativeGroup(x, 3, 0, 1);
-        x.initiate();
-        x.generate(detail, 1);
-        x.indicate(detail);
-        x.generate(detail, 2); // not the first one, though the first one since it is indicated
-        numbers(x, 1, 0);
-    }
-
-    private static void notPrintedIsNotFirst() {
-        ReportWriter x = new ReportWriter(20, 3, 15);
-        x.control(1);
-        int detail = Check.relativeGroup(x, 3, 0, 1);
-        x.indicate(detail);
-        x.initiate();
-        x.generate(0, 1);
-        x.generate(detail, 2);
-        x.set(1, 2);
-        x.generate(0, 3);
-        x.generate(detail, 4); // the first one behind the summary's break
-        x.generate(detail, 5);
-        numbers(x, 2, 4, 0);
     }
 }
