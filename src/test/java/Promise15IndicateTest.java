@@ -6,6 +6,7 @@ public final class Promise15IndicateTest {
         theBeginning();
         aBreak();
         aPagesBeginning();
+        breaksAndPagesBetween();
         eachDetailForItself();
         printedAheadOfIndicating();
         notPrintedIsNotFirst();
@@ -84,6 +85,45 @@ public final class Promise15IndicateTest {
         x.generate(2, 5); // another detail begins the page
         x.generate(1, 6);
         CHECK.column(x, 4, 1, 0, 3, 0, 5, 6);
+    }
+
+    /** However many breaks and pages there were between two of its printings, and in which order. */
+    private static void breaksAndPagesBetween() {
+        CHECK.holds("its number is told only when it is the first one behind a break, the beginning, or a page's beginning, else 0",
+                "several of them between two printings");
+        for (int breaks = 0; breaks <= 3; breaks++) {
+            for (int pages = 0; pages <= 3; pages++) {
+                boolean isFirst = breaks + pages > 0;
+                CHECK.due(breaks + " breaks, then " + pages + " pages", numberBehind(1, breaks, pages, 0), isFirst ? 9 : 0);
+                CHECK.due(pages + " pages, then " + breaks + " breaks", numberBehind(1, 0, pages, breaks), isFirst ? 9 : 0);
+                CHECK.due("never printed, " + breaks + " breaks, " + pages + " pages", numberBehind(0, breaks, pages, 0), 9);
+                CHECK.due("never printed, " + pages + " pages, " + breaks + " breaks", numberBehind(0, 0, pages, breaks), 9);
+            }
+        }
+    }
+
+    /** The indicated detail's number, 9, as told behind so many breaks, pages and breaks; at first by itself or by a summary. */
+    private static int numberBehind(int atFirst, int breaks, int pages, int breaksBehind) {
+        ReportWriter x = indicated(15);
+        Check.absoluteGroup(x, 3, 0, 3); // each time on a page of its own
+        x.initiate();
+        x.generate(atFirst, 1);
+        int value = x.set(1, 1);
+        for (int i = 0; i < breaks; i++) {
+            value++;
+            x.set(1, value);
+            x.generate(0, 1);
+        }
+        for (int i = 0; i < pages + 1 - atFirst; i++) {
+            x.generate(2, 1);
+        }
+        for (int i = 0; i < breaksBehind; i++) {
+            value++;
+            x.set(1, value);
+            x.generate(0, 1);
+        }
+        x.generate(1, 9);
+        return x.at(x.lines() - 1, 4);
     }
 
     private static void eachDetailForItself() {
